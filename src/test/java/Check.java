@@ -13,6 +13,13 @@ final class Check {
         }
     }
 
+    static void equal(String what, String got, String due) {
+        made++;
+        if (!got.equals(due)) {
+            fail(what + " answered " + got + ", due is " + due);
+        }
+    }
+
     static void holds(String what, boolean is) {
         made++;
         if (!is) {
