@@ -25,6 +25,7 @@ public final class BarBoundsTest {
         aBarHoldsPieces();
         noCutAtTheEnds();
         theFewestBars();
+        moreBarsThanTheLengthsFill();
 
         barPiece();
         piece0IntoBar0();
@@ -335,6 +336,14 @@ public final class BarBoundsTest {
                 0, 0, 1, 1, 2, 2, 3, 4, 4, 3);
         plans(cutting(words, 12, 0, 6, 2, 2, 2, 4, 4, 4, 6, 3, 3), 3,
                 0, 0, 0, 0, 1, 1, 1, 2, 2, 2);
+    }
+
+    private static void moreBarsThanTheLengthsFill() {
+        String words = "15: all lengths together would fill fewer bars";
+        plans(cutting(words, 10, 0, 4, 4, 4, 4, 4), 3, 0, 0, 1, 1, 2);
+        plans(cutting(words, 10, 0, 6, 6, 6), 3, 0, 1, 2);
+        plans(cutting(words, 10, 0, 3, 3, 3, 3, 3, 5), 3, 0, 0, 0, 1, 1, 2);
+        plans(cutting(words, 100, 2, 35, 35, 35, 35, 35, 15), 3, 0, 0, 1, 1, 2, 0);
     }
 
     // ---- promise 16
